@@ -13,13 +13,17 @@ final class ModelTest {
     private final Model model = new Model();
     /** What a run is mostly about: 0 all calls, 1 tellings, 2 the ledger. */
     private final int about;
+    private final int tellsFirst;
     private final int numbers;
+    private final int mostEntries;
     private final int mostMonth;
 
     private ModelTest(int run) {
         random = new Random(run);
         about = run % 3;
+        tellsFirst = about != 1 ? 0 : run % 4 == 1 ? 330 : 60;
         numbers = run % 2 == 0 ? 12 : 1000;
+        mostEntries = run % 2 == 0 ? 60 : 15;
         mostMonth = run % 5 == 0 ? 120 : 20;
     }
 
@@ -32,12 +36,15 @@ final class ModelTest {
 
     private void compare(int run) {
         for (int i = 0; i < CALLS; i++) {
-            int which = about == 0 ? random.nextInt(17) : about == 1 ? random.nextInt(11) : 11 + random.nextInt(6);
-            if (about == 1 && run % 4 == 1 && i < 330) {
-                which = 0;
-            }
-            one("run " + run + ", call " + i, which);
+            one("run " + run + ", call " + i, i < tellsFirst ? 0 : someCall());
         }
+    }
+
+    private int someCall() {
+        if (about == 0) {
+            return random.nextInt(17);
+        }
+        return about == 1 ? random.nextInt(11) : 11 + random.nextInt(6);
     }
 
     private void one(String where, int which) {
@@ -106,7 +113,7 @@ final class ModelTest {
     }
 
     private void ledger(String where, int which) {
-        int entry = some(60), account = some(10), day = some(3600), number = some(40);
+        int entry = some(mostEntries), account = some(10), day = some(3600), number = some(mostEntries / 3);
         switch (which) {
             case 11 -> same(where + " entry", () -> desks.entry(day), () -> model.entry(day));
             case 12 -> rows(where, entry, account);

@@ -12,6 +12,7 @@ final class Promise06AtTest {
         settled();
         settledByTheLatest();
         settledWithoutMarks();
+        everyTelling();
         wrongInputs();
         Check.end();
     }
@@ -121,6 +122,21 @@ final class Promise06AtTest {
         Check.is(0, x.at(0, 4, MARK, 4L));
         Check.is(8, x.at(0, 4, MARK, 5L));
         Check.is(3, x.at(0, 4, MARK, 7L));
+    }
+
+    private static void everyTelling() {
+        long[][] rows = new long[300][];
+        for (int i = 0; i < 300; i++) {
+            rows[i] = row(i % 4, i % 4 == MARK ? 5 : i, i % 4 == MARK ? 400 : i);
+        }
+        ShopDesks x = told(rows);
+        // 0 + 4 + .. + 296
+        Check.is(11100, x.at(0, 4, COUNT, 400L));
+        Check.is(297, x.at(0, 4, PLACE, 400L));
+        Check.is(299, x.at(0, 4, MARK, 399L));
+        Check.is(5, x.at(0, 4, MARK, 400L));
+        Check.is(299, x.at(0, 4, SETTLE, 400L));
+        Check.is(ShopDesks.NONE, x.conflict(0, 0));
     }
 
     private static void wrongInputs() {

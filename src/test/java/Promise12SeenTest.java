@@ -6,6 +6,7 @@ final class Promise12SeenTest {
     public static void main(String[] args) {
         atTheGreatestTime();
         wholeBatch();
+        nothingBehindTheBatch();
         wrongInputs();
         Check.end();
     }
@@ -84,6 +85,22 @@ final class Promise12SeenTest {
         seen(x, 0, 55, 60, 700, 700);
         Check.is(true, x.batch(3, false));
         seen(x, 3, 55, 60, 700, 700);
+    }
+
+    /** For each kind, the first telling that comes behind the batch's begin is one of that kind. */
+    private static void nothingBehindTheBatch() {
+        for (int kind = 0; kind < 4; kind++) {
+            ShopDesks x = withRights();
+            x.tell(0, 1L, 6, kind, 5L, 1L);
+            x.tell(1, 1L, 6, kind, 9L, 2L);
+            x.set(0);
+            x.set(1);
+            x.batch(0, true);
+            Check.is(1, x.join(0, 1));
+            Check.is(5, x.seen(2, 0, 6, kind));
+            x.batch(0, false);
+            Check.is(kind == COUNT ? 14 : kind == MARK ? 0 : 9, x.seen(2, 0, 6, kind));
+        }
     }
 
     private static void wrongInputs() {

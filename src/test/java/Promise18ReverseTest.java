@@ -2,6 +2,7 @@
 final class Promise18ReverseTest {
     public static void main(String[] args) {
         ordinary();
+        sixRows();
         byNumberNotByEntry();
         months();
         wrongInputs();
@@ -35,6 +36,20 @@ final class Promise18ReverseTest {
         Check.is(4, x.reverse(3, 0));
         Check.is(-1000000000L + 1, x.balance(1, 9));
         Check.is(4, x.entry(0));
+    }
+
+    private static void sixRows() {
+        ShopDesks x = new ShopDesks();
+        x.entry(0);
+        for (int i = 0; i < 6; i++) {
+            x.row(0, i, i < 3 ? 1000000000L : -1000000000L);
+        }
+        Check.is(1, x.close(0));
+        Check.is(2, x.reverse(1, 1));
+        for (int account = 0; account < 6; account++) {
+            Check.is(account < 3 ? 1000000000L : -1000000000L, x.balance(account, 0));
+            Check.is(0, x.balance(account, 1));
+        }
     }
 
     private static void byNumberNotByEntry() {
