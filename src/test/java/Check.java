@@ -1,6 +1,9 @@
 import java.lang.reflect.Array;
 import java.lang.reflect.Field;
 import java.lang.reflect.Modifier;
+import java.util.Arrays;
+import java.util.function.BooleanSupplier;
+import java.util.function.LongSupplier;
 
 /** What the tests share: they print each answer that is not due, and end with exit code 1 if there was one. */
 final class Check {
@@ -19,6 +22,22 @@ final class Check {
 
     static void is(boolean want, boolean got) {
         is(want ? 1 : 0, got ? 1 : 0);
+    }
+
+    /** The answer is due, and the call changed nothing. */
+    static void keeps(ShopDesks x, long want, LongSupplier call) {
+        String before = stateOf(x);
+        is(want, call.getAsLong());
+        that(before.equals(stateOf(x)), "a call that was to change nothing changed something");
+    }
+
+    static void keeps(ShopDesks x, boolean want, BooleanSupplier call) {
+        keeps(x, want ? 1 : 0, () -> call.getAsBoolean() ? 1 : 0);
+    }
+
+    /** The numbers next to first .. last, and those that are farthest from them. */
+    static int[] outside(int first, int last) {
+        return new int[] {first - 1, last + 1, Integer.MIN_VALUE, Integer.MAX_VALUE};
     }
 
     static void noIndex(ShopDesks x, Runnable call) {
@@ -84,6 +103,12 @@ final class Check {
     private static void write(Object held, Class<?> type, StringBuilder text) {
         if (held == null || !type.isArray() && !type.getName().startsWith("ShopDesks")) {
             text.append(held).append(' ');
+        } else if (held instanceof int[] ints) {
+            text.append(Arrays.toString(ints));
+        } else if (held instanceof long[] longs) {
+            text.append(Arrays.toString(longs));
+        } else if (held instanceof boolean[] booleans) {
+            text.append(Arrays.toString(booleans));
         } else if (type.isArray()) {
             for (int i = 0; i < Array.getLength(held); i++) {
                 Object element = Array.get(held, i);

@@ -3,7 +3,8 @@ final class Promise03SetTest {
     public static void main(String[] args) {
         byNumbers();
         soFar();
-        wrongInputs();
+        thereAreEight();
+        noSuchTeller();
         Check.end();
     }
 
@@ -36,17 +37,29 @@ final class Promise03SetTest {
         Check.is(2, x.mark(2));
     }
 
-    private static void wrongInputs() {
+    /** "IllegalStateException: there are 8". */
+    private static void thereAreEight() {
+        ShopDesks x = new ShopDesks();
+        for (int set = 0; set < 7; set++) {
+            x.set(5);
+        }
+        Check.is(7, x.set(5));
+        for (int teller = 0; teller < 6; teller++) {
+            int of = teller;
+            Check.noState(x, () -> x.set(of));
+        }
+        for (int none : Check.outside(0, 5)) {
+            Check.noIndex(x, () -> x.set(none));
+        }
+    }
+
+    private static void noSuchTeller() {
         ShopDesks x = new ShopDesks();
         for (int set = 0; set < 8; set++) {
-            Check.noIndex(x, () -> x.set(-1));
-            Check.noIndex(x, () -> x.set(6));
-            Check.is(set, x.set(5));
+            for (int none : Check.outside(0, 5)) {
+                Check.noIndex(x, () -> x.set(none));
+            }
+            Check.is(set, x.set(set < 4 ? 0 : 5));
         }
-        Check.noState(x, () -> x.set(0));
-        Check.noState(x, () -> x.set(5));
-        Check.noIndex(x, () -> x.set(6));
-        Check.noIndex(x, () -> x.set(Integer.MIN_VALUE));
-        Check.noIndex(x, () -> x.set(Integer.MAX_VALUE));
     }
 }

@@ -13,7 +13,8 @@ final class Promise06AtTest {
         settledByTheLatest();
         settledWithoutMarks();
         everyTelling();
-        wrongInputs();
+        noSuchSetOrThing();
+        anotherKind();
         Check.end();
     }
 
@@ -139,18 +140,26 @@ final class Promise06AtTest {
         Check.is(ShopDesks.NONE, x.conflict(0, 0));
     }
 
-    private static void wrongInputs() {
+    private static void noSuchSetOrThing() {
         ShopDesks x = told();
         for (int none : new int[] {-1, 1, 8, Integer.MIN_VALUE, Integer.MAX_VALUE}) {
             Check.noIndex(x, () -> x.at(none, 0, 0, 0L));
             Check.noIndex(x, () -> x.at(none, 0, 4, 0L));
         }
-        for (int none : new int[] {-1, 10, Integer.MIN_VALUE, Integer.MAX_VALUE}) {
+        for (int none : Check.outside(0, 9)) {
             Check.noIndex(x, () -> x.at(0, none, 0, 0L));
             Check.noIndex(x, () -> x.at(0, none, 4, 0L));
         }
-        for (int none : new int[] {-1, 4, Integer.MIN_VALUE, Integer.MAX_VALUE}) {
-            Check.noArgument(x, () -> x.at(0, 9, none, 0L));
+        ShopDesks y = new ShopDesks();
+        Check.noIndex(y, () -> y.at(0, 0, 0, 0L));
+    }
+
+    /** "IllegalArgumentException: another kind". */
+    private static void anotherKind() {
+        ShopDesks x = told();
+        for (int none : Check.outside(0, 3)) {
+            Check.noArgument(x, () -> x.at(0, 0, none, 0L));
+            Check.noArgument(x, () -> x.at(0, 9, none, Long.MAX_VALUE));
         }
     }
 }

@@ -7,7 +7,9 @@ final class Promise12SeenTest {
         atTheGreatestTime();
         wholeBatch();
         nothingBehindTheBatch();
-        wrongInputs();
+        noSuchPersonSetOrThing();
+        anotherKind();
+        noRight();
         Check.end();
     }
 
@@ -103,25 +105,50 @@ final class Promise12SeenTest {
         }
     }
 
-    private static void wrongInputs() {
+    /** Person 2 has all rights, person 0 none. */
+    private static void noSuchPersonSetOrThing() {
         ShopDesks x = withRights();
+        Check.noIndex(x, () -> x.seen(2, 0, 0, 0));
         x.set(0);
-        for (int none : new int[] {-1, 4, Integer.MIN_VALUE, Integer.MAX_VALUE}) {
+        for (int none : Check.outside(0, 3)) {
             Check.noIndex(x, () -> x.seen(none, 0, 0, 0));
             Check.noIndex(x, () -> x.seen(none, 0, 0, 4));
-            Check.noArgument(x, () -> x.seen(2, 0, 0, none));
-            Check.noArgument(x, () -> x.seen(0, 0, 0, none));
         }
         for (int none : new int[] {-1, 1, 8, Integer.MIN_VALUE, Integer.MAX_VALUE}) {
             Check.noIndex(x, () -> x.seen(2, none, 0, 0));
             Check.noIndex(x, () -> x.seen(0, none, 0, 4));
             Check.noIndex(x, () -> x.seen(0, none, 0, 0));
         }
-        for (int none : new int[] {-1, 10, Integer.MIN_VALUE, Integer.MAX_VALUE}) {
+        for (int none : Check.outside(0, 9)) {
             Check.noIndex(x, () -> x.seen(2, 0, none, 0));
             Check.noIndex(x, () -> x.seen(0, 0, none, 4));
             Check.noIndex(x, () -> x.seen(0, 0, none, 0));
         }
-        Check.noState(x, () -> x.seen(0, 0, 9, 3));
+    }
+
+    /** "IllegalArgumentException: another kind": with rights or without. */
+    private static void anotherKind() {
+        ShopDesks x = withRights();
+        x.set(0);
+        for (int none : Check.outside(0, 3)) {
+            Check.noArgument(x, () -> x.seen(2, 0, 0, none));
+            Check.noArgument(x, () -> x.seen(0, 0, 0, none));
+        }
+    }
+
+    /** "IllegalStateException: no RIGHT": never had, of another person, of another kind, or taken again. */
+    private static void noRight() {
+        ShopDesks x = new ShopDesks();
+        x.set(0);
+        x.right(2, PLACE, true);
+        Check.is(0, x.seen(2, 0, 0, PLACE));
+        Check.noState(x, () -> x.seen(0, 0, 9, SETTLE));
+        Check.noState(x, () -> x.seen(1, 0, 0, PLACE));
+        Check.noState(x, () -> x.seen(3, 0, 0, PLACE));
+        Check.noState(x, () -> x.seen(2, 0, 0, COUNT));
+        Check.noState(x, () -> x.seen(2, 0, 0, MARK));
+        Check.noState(x, () -> x.seen(2, 0, 0, SETTLE));
+        x.right(2, PLACE, false);
+        Check.noState(x, () -> x.seen(2, 0, 0, PLACE));
     }
 }

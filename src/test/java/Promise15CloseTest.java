@@ -1,27 +1,43 @@
 /** Promise 15: close. */
 final class Promise15CloseTest {
+    private static final long MOST = 1000000000L;
+
     public static void main(String[] args) {
+        refusedWithoutARow();
         refusedUntilZero();
         numbersInTheOrderOfClosing();
         sixRows();
-        months();
-        wrongInputs();
+        refusedByItsMonth();
+        refusedByBoth();
+        noSuchEntry();
+        itIsClosed();
         Check.end();
+    }
+
+    private static void refusedWithoutARow() {
+        ShopDesks x = new ShopDesks();
+        x.entry(10);
+        Check.keeps(x, 0, () -> x.close(0));
+        Check.is(1, x.row(0, 0, 0L));
+        Check.is(1, x.close(0));
     }
 
     private static void refusedUntilZero() {
         ShopDesks x = new ShopDesks();
         x.entry(10);
-        Check.is(0, x.close(0));
         x.row(0, 1, 100L);
-        Check.is(0, x.close(0));
+        Check.keeps(x, 0, () -> x.close(0));
         x.row(0, 2, -60L);
-        Check.is(0, x.close(0));
-        Check.is(3, x.row(0, 3, -40L));
+        Check.keeps(x, 0, () -> x.close(0));
+        x.row(0, 3, -39L);
+        Check.keeps(x, 0, () -> x.close(0));
+        x.row(0, 3, -2L);
+        Check.keeps(x, 0, () -> x.close(0));
+        Check.is(5, x.row(0, 3, 1L));
         Check.is(0, x.balance(1, 3599));
         Check.is(1, x.close(0));
         Check.is(100, x.balance(1, 3599));
-        Check.noState(x, () -> x.close(0));
+        Check.is(-40, x.balance(3, 3599));
     }
 
     private static void numbersInTheOrderOfClosing() {
@@ -39,19 +55,20 @@ final class Promise15CloseTest {
         ShopDesks x = new ShopDesks();
         x.entry(0);
         for (int i = 0; i < 6; i++) {
-            x.row(0, 0, i < 3 ? 1000000000L : -1000000000L);
+            x.row(0, 0, i < 3 ? MOST : -MOST);
         }
         Check.is(1, x.close(0));
         // Together they are 2 to the 32nd, which would be 0 as an int.
         x.entry(0);
         for (int i = 0; i < 4; i++) {
-            x.row(1, 0, 1000000000L);
+            x.row(1, 0, MOST);
         }
         x.row(1, 0, 294967296L);
-        Check.is(0, x.close(1));
+        Check.keeps(x, 0, () -> x.close(1));
     }
 
-    private static void months() {
+    /** "0 if it is refused (also by its MONTH)". */
+    private static void refusedByItsMonth() {
         ShopDesks x = new ShopDesks();
         int[] days = {0, 59, 60, 3599};
         for (int entry = 0; entry < 4; entry++) {
@@ -59,16 +76,32 @@ final class Promise15CloseTest {
             x.row(entry, 0, 0L);
         }
         x.closeMonth(1);
-        Check.is(0, x.close(0));
-        Check.is(0, x.close(1));
+        Check.keeps(x, 0, () -> x.close(0));
+        Check.keeps(x, 0, () -> x.close(1));
         Check.is(1, x.close(2));
-        Check.is(2, x.row(1, 0, 5L));
+        x.closeMonth(118);
+        Check.is(2, x.close(3));
+        Check.is(4, x.entry(3599));
+        x.row(4, 0, 0L);
         x.closeMonth(119);
-        Check.is(0, x.close(3));
+        Check.keeps(x, 0, () -> x.close(4));
+        // Refused by its month it is as open as before.
+        Check.is(2, x.row(1, 0, 5L));
         Check.noState(x, () -> x.close(2));
     }
 
-    private static void wrongInputs() {
+    private static void refusedByBoth() {
+        ShopDesks x = new ShopDesks();
+        x.entry(0);
+        x.closeMonth(0);
+        Check.keeps(x, 0, () -> x.close(0));
+        x.row(0, 0, 1L);
+        Check.keeps(x, 0, () -> x.close(0));
+        x.row(0, 0, -1L);
+        Check.keeps(x, 0, () -> x.close(0));
+    }
+
+    private static void noSuchEntry() {
         ShopDesks x = new ShopDesks();
         Check.noIndex(x, () -> x.close(0));
         x.entry(5);
@@ -77,7 +110,20 @@ final class Promise15CloseTest {
         }
         x.row(0, 1, 0L);
         Check.is(1, x.close(0));
+        Check.noIndex(x, () -> x.close(1));
+    }
+
+    /** "IllegalStateException: it is CLOSED": also if its month is closed since, and one that reverses. */
+    private static void itIsClosed() {
+        ShopDesks x = new ShopDesks();
+        x.entry(5);
+        x.row(0, 1, 0L);
+        Check.is(1, x.close(0));
+        Check.noState(x, () -> x.close(0));
         Check.is(2, x.reverse(1, 5));
+        Check.noState(x, () -> x.close(0));
+        Check.noState(x, () -> x.close(1));
+        x.closeMonth(119);
         Check.noState(x, () -> x.close(0));
         Check.noState(x, () -> x.close(1));
         Check.noIndex(x, () -> x.close(2));
